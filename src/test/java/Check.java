@@ -9,7 +9,7 @@ final class Check {
     }
 
     interface Call {
-        long answer();
+        Object answer();
     }
 
     static void same(String what, long got, long want) {
@@ -153,7 +153,8 @@ final class Check {
         StringBuilder places = new StringBuilder(" places");
         for (int place = 0; ; place++) {
             try {
-                places.append(' ').append(world.standing(place));
+                int team = world.standing(place);
+                places.append(' ').append(team);
             } catch (IndexOutOfBoundsException e) {
                 return places.toString();
             }
