@@ -665,7 +665,7 @@ public final class Gangline {
         Team planner = teams[team];
         bestMinute = NEVER;
         trials[0].becomeLike(planner.party);
-        search(0, legs);
+        search(this, 0, legs);
         if (bestMinute == NEVER) {
             throw new NoSuchElementException("no plan for these legs is admitted");
         }
@@ -1206,24 +1206,25 @@ public final class Gangline {
         plan.put('r', 0);
     }
 
-    private void search(int depth, int wanted) {
+    /** Tries the choices of the leg at this depth, each behind what was chosen for the legs ahead of it. */
+    private static void search(Gangline world, int depth, int wanted) {
         if (depth >= wanted || depth >= MOST_SEARCHED) {
             return;
         }
-        Party next = trials[depth + 1];
+        Party next = world.trials[depth + 1];
         for (int choice = 0; choice < CHOICES; choice++) {
-            next.becomeLike(trials[depth]);
-            chosen[depth] = choice;
-            choicePlan.count = 0;
-            putChoice(choicePlan, choice);
+            next.becomeLike(world.trials[depth]);
+            world.chosen[depth] = choice;
+            world.choicePlan.count = 0;
+            putChoice(world.choicePlan, choice);
             // No leg takes back a minute, so what is as late as the best one already cannot become earlier.
-            if (tryOrders(next, choicePlan) != DONE || next.minute >= bestMinute) {
+            if (world.tryOrders(next, world.choicePlan) != DONE || next.minute >= world.bestMinute) {
                 continue;
             }
             if (depth + 1 < wanted) {
-                search(depth + 1, wanted);
+                search(world, depth + 1, wanted);
             } else {
-                keepBest(next.minute, wanted);
+                world.keepBest(next.minute, wanted);
             }
         }
     }

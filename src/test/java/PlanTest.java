@@ -18,6 +18,8 @@ public final class PlanTest {
         bestPlan();
         bestPlanAgainstAll();
         bestPlanOfEqualOnes();
+        bestPlanOfEachChoice();
+        trialIsLikeTheTeam();
         noBestPlan();
         why();
         Check.end("PlanTest");
@@ -412,6 +414,94 @@ public final class PlanTest {
         Gangline world = Check.ready(3, 1);
         world.storm(1, 0, 6, 9);
         world.begin(0, 0);
+        return world;
+    }
+
+    /**
+     * Each row: length of the first leg; length, surface and climb of the second one; kilos, strength, dogs; the last
+     * hour of a storm of 9 on the second leg, or -1; the orders due for it. In the first rows two choices are as early.
+     */
+    private static void bestPlanOfEachChoice() {
+        int[][] rows = {
+            {63, 14, 3, 0, 6, 3, 6, -1, 1},
+            {39, 93, 3, 0, 32, 2, 5, -1, 2},
+            {23, 21, 0, 4, 137, 8, 7, 2, 2},
+            {31, 8, 6, 2, 30, 3, 5, 9, 2},
+            {39, 93, 3, 0, 32, 2, 5, 10, 3},
+            {39, 93, 3, 0, 32, 2, 5, 13, 3},
+        };
+        for (int[] row : rows) {
+            Gangline world = new Gangline();
+            world.leg(row[0], 2, 0);
+            world.leg(row[1], row[2], row[3]);
+            world.leg(10, 0, 0);
+            Check.addTeam(world, row[6], row[5], 0);
+            if (row[7] >= 0) {
+                world.storm(1, 0, row[7], 9);
+            }
+            world.begin(0, row[4]);
+            world.run(0);
+            Check.same("orders of the best", world.bestPlan(0, 1), row[8]);
+            searchLike(world, 1, "row of " + row[0] + ", " + row[7]);
+            searchLike(world, 2, "row of " + row[0] + ", " + row[7]);
+        }
+        Gangline closed = Check.begun(2, 1);
+        closed.storm(0, 0, 7, 9);
+        Check.refuses(closed, "9 hours of camping", NoSuchElementException.class, () -> closed.bestPlan(0, 1));
+    }
+
+    /** What a plan is tried on has the trust and the boots of the team, not those of a trial before. */
+    private static void trialIsLikeTheTeam() {
+        Gangline world = new Gangline();
+        for (int i = 0; i < 4; i++) {
+            world.leg(100, 9, 0);
+            world.cold(i, -31);
+        }
+        world.leg(5, 0, 0);
+        Check.addTeam(world, 5, 8, 3);
+        world.begin(0, 75);
+        for (int i = 0; i < 3; i++) {
+            world.melt(0);
+            world.feed(0, 3);
+            world.run(0);
+        }
+        Check.same("feet", world.dogOf(0, 'f'), 31);
+        world.melt(0);
+        world.feed(0, 3);
+        bar(world, 's', "r");
+        world.boots(0, true);
+        bar(world, '-', "r");
+        world.boots(0, false);
+        bar(world, 's', "r");
+        bar(world, 's', "c3 r");
+        bar(world, '-', "c4 r");
+        world.camp(0, 3);
+        bar(world, 's', "r");
+        bar(world, '-', "c1 r");
+        Gangline trusty = trailOfFeet(8);
+        bar(trusty, '-', "c2 r");
+        Gangline other = trailOfFeet(4);
+        bar(other, 's', "c2 r");
+    }
+
+    /** Feet of 31 and a last leg that takes 23: with a trust of 7 or more 2 hours of camping are enough. */
+    private static Gangline trailOfFeet(int hours) {
+        Gangline world = new Gangline();
+        for (int i = 0; i < 4; i++) {
+            world.leg(100, 9, 0);
+            world.cold(i, -31);
+        }
+        world.leg(5, 0, 0);
+        Check.addTeam(world, 5, 8, 3);
+        world.begin(0, 75);
+        world.camp(0, hours);
+        for (int i = 0; i < 3; i++) {
+            world.melt(0);
+            world.feed(0, 3);
+            world.run(0);
+        }
+        world.melt(0);
+        world.feed(0, 3);
         return world;
     }
 

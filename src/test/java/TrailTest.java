@@ -129,6 +129,11 @@ public final class TrailTest {
         world.camp(0, 1);
         Check.same("behind all storms", world.estimate(0), 144);
         Check.same("hours are cut", stormAfter(45, 1), 144);
+        Gangline late = Check.ready(2, 1);
+        late.begin(0, 39);
+        Check.same("118 minutes", late.run(0), 118);
+        late.storm(1, 2, 9999, 9);
+        Check.same("are in the hour 1", late.run(0) > 0 ? 1 : 0, 1);
         Check.same("hour 1 begins", stormAfter(60, 1), 144 + 24);
     }
 
@@ -197,6 +202,9 @@ public final class TrailTest {
         Check.same("lead", world.dogOf(1, 'l'), 9);
         Check.same("age", world.dogOf(0, 'a'), 2);
         Check.same("kennel", world.dogOf(0, 'k'), 1);
+        Check.same("trust", world.dogOf(0, 't'), 5);
+        Check.same("feet, food and water", world.dogOf(0, 'f') + world.dogOf(0, 'e') + world.dogOf(0, 'w'), 300);
+        Check.same("pull", world.dogOf(1, 'p'), 45);
         Check.letter("state", world.stateOf(0), 'k');
         Check.isNot("must stop", () -> world.mustStop(0));
         for (int i = 2; i < 40; i++) {
@@ -343,20 +351,28 @@ public final class TrailTest {
     private static void beginLater() {
         Gangline world = new Gangline();
         world.leg(100, 9, 0);
-        world.leg(100, 9, 0);
+        world.leg(5, 9, -6);
+        world.leg(5, 0, 0);
         Check.addTeam(world, 5, 9, 0);
         Check.addTeam(world, 5, 9, 0);
+        world.cold(1, -31);
         world.begin(0, 100);
         world.run(0);
         Check.same("feet", world.dogOf(0, 'f'), 82);
         Check.same("trust", world.dogOf(0, 't'), 4);
+        world.mend(0);
+        world.exchange(0);
         world.restLong(0);
+        Check.same("feet behind the rest", world.dogOf(0, 'f'), 100);
+        world.melt(0);
+        Check.same("run with little food", world.run(0) > 0 ? 1 : 0, 1);
         Check.cannot(world, "begin behind a long rest", () -> world.begin(1, 0));
         world.scratch(0);
         Check.cannot(world, "begin behind the long rest of a team that is out", () -> world.begin(1, 0));
         Check.same("the year ends", world.endYear(), 1);
         Check.text("team then", ahead(world, 0), "m0 c0 k0 s100 b0 p3 o6 d0 e0 f0 --0");
-        Check.same("food stays", world.dogOf(0, 'e'), 19);
+        Check.same("food stays", world.dogOf(0, 'e'), 14);
+        Check.same("feet stay", world.dogOf(0, 'f'), 95);
         for (int i = 0; i < 5; i++) {
             world.hitch(0, i);
         }

@@ -194,6 +194,22 @@ public final class WayTest {
         Check.same("food then", world.dogOf(0, 'e'), 73 - 27);
         Check.same("water then", world.dogOf(0, 'w'), 58 - 28);
         Check.same("feet then", world.dogOf(0, 'f'), 93 - 7 - 5);
+        Gangline cut = world(8, 3, new int[] {10, 0, 0}, new int[] {120, 9, 0}, new int[] {120, 9, 0},
+            new int[] {120, 9, 0}, new int[] {120, 9, 0}, new int[] {5, 0, 0});
+        for (int i = 0; i < 6; i++) {
+            cut.cold(i, -31);
+        }
+        cut.begin(0, 139);
+        cut.run(0);
+        Check.same("food, cut", cut.dogOf(0, 'e'), 100 - 9 - 1);
+        Check.same("feet in the cold", cut.dogOf(0, 'f'), 95);
+        Check.same("pull with feet of 95", cut.dogOf(0, 'p'), 8 * 185 / 40 * 95 / 100);
+        for (int feet : new int[] {69, 43, 17, 0}) {
+            cut.melt(0);
+            cut.feed(0, 3);
+            cut.run(0);
+            Check.same("feet then", cut.dogOf(0, 'f'), feet);
+        }
     }
 
     private static void sledBreaks() {
@@ -554,9 +570,18 @@ public final class WayTest {
         Check.addTeam(world, 5, 8, 0);
         world.begin(0, 0);
         world.boots(0, true);
+        Gangline rough = world(8, 0, new int[] {59, 6, 0}, new int[] {5, 0, 0});
+        rough.begin(0, 0);
+        rough.boots(0, true);
+        rough.run(0);
+        Check.same("half of 7, cut", rough.dogOf(0, 'f'), 97);
         for (int left = 5; left >= 0; left--) {
             world.run(0);
             Check.same("boots left", world.teamOf(0, 'o'), left);
+            if (left == 1) {
+                Check.isNot("the last boots off", () -> world.boots(0, false));
+                Check.is("the last boots on", () -> world.boots(0, true));
+            }
             Check.same("feet", world.dogOf(0, 'f'), 100);
         }
         world.run(0);
@@ -647,6 +672,10 @@ public final class WayTest {
         }
         world.begin(0, 0);
         Check.same("exchange in the next year", world.exchange(0), 1);
+        world.run(0);
+        world.scratch(0);
+        world.endYear();
+        Check.same("a whole sled in the next year", world.teamOf(0, 'b'), 0);
     }
 
     private static void drop() {
@@ -669,6 +698,13 @@ public final class WayTest {
         world.scratch(1);
         world.endYear();
         Check.letter("in the kennel again", world.stateOf(2), 'k');
+        Gangline many = Check.trail(2);
+        Check.addTeam(many, 14, 8, 3);
+        many.begin(0, 60);
+        for (int left = 13; left >= 0; left--) {
+            Check.same("drop one of many", many.drop(0, (left * 5 + 3) % 14), left);
+            Check.number("pulls of those left", many.estimate(0), 40 * 6 * 120 / Math.max(1, 40 * left));
+        }
     }
 
     private static void scratch() {
