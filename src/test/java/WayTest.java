@@ -204,6 +204,11 @@ public final class WayTest {
         Check.same("food, cut", cut.dogOf(0, 'e'), 100 - 9 - 1);
         Check.same("feet in the cold", cut.dogOf(0, 'f'), 95);
         Check.same("pull with feet of 95", cut.dogOf(0, 'p'), 8 * 185 / 40 * 95 / 100);
+        Gangline sore = world(8, 3, new int[] {10, 5, 0}, new int[] {5, 0, 0});
+        sore.begin(0, 60);
+        sore.run(0);
+        sore.feed(0, 1);
+        Check.same("pull with feet of 99", sore.dogOf(0, 'p'), 39);
         for (int feet : new int[] {69, 43, 17, 0}) {
             cut.melt(0);
             cut.feed(0, 3);
@@ -578,10 +583,6 @@ public final class WayTest {
         for (int left = 5; left >= 0; left--) {
             world.run(0);
             Check.same("boots left", world.teamOf(0, 'o'), left);
-            if (left == 1) {
-                Check.isNot("the last boots off", () -> world.boots(0, false));
-                Check.is("the last boots on", () -> world.boots(0, true));
-            }
             Check.same("feet", world.dogOf(0, 'f'), 100);
         }
         world.run(0);
@@ -595,6 +596,26 @@ public final class WayTest {
         world.scratch(0);
         world.endYear();
         Check.same("boots of the next year", world.teamOf(0, 'o'), 6);
+        Gangline last = new Gangline();
+        for (int i = 0; i < 7; i++) {
+            last.leg(10, 9, 0);
+        }
+        Check.addTeam(last, 5, 8, 0);
+        last.begin(0, 0);
+        last.boots(0, true);
+        for (int i = 0; i < 5; i++) {
+            last.run(0);
+        }
+        Check.isNot("the last boots off", () -> last.boots(0, false));
+        Check.is("the last boots on", () -> last.boots(0, true));
+        last.scratch(0);
+        last.endYear();
+        for (int i = 0; i < 5; i++) {
+            last.hitch(0, i);
+        }
+        last.begin(0, 0);
+        last.run(0);
+        Check.same("no boots are on in the next year", last.teamOf(0, 'o'), 6);
     }
 
     private static void give() {
