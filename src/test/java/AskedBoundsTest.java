@@ -112,6 +112,7 @@ public final class AskedBoundsTest {
     /** Team 0 of so many finished, on a trail of 2 legs; the others are on their way at the first checkpoint. */
     private static Gangline finished(int teams) {
         Gangline world = Check.begun(2, teams);
+        world.purse(1001);
         finish(world, 0);
         return world;
     }

@@ -31,8 +31,12 @@ final class Bounds {
     /** The call must throw exactly this class, and change nothing, what why() tells included. */
     static void refused(String what, Class<? extends RuntimeException> due, Maker maker, Call call) {
         Gangline world = maker.make();
+        Gangline like = maker.make();
         Check.text(what + " throws", thrownBy(world, call), due.getSimpleName());
-        leavesAlike(what, world, maker.make());
+        for (int team = 0; team < Check.teamsOf(like); team++) {
+            Check.letter(what + " leaves why() of " + team, world.why(team), like.why(team));
+        }
+        leavesNothing(what, maker, call);
     }
 
     /** The call must throw exactly this class, and change nothing but what why() tells of this team: this letter. */
@@ -41,22 +45,37 @@ final class Bounds {
         Gangline world = maker.make();
         Gangline like = maker.make();
         Check.text(what + " throws", thrownBy(world, call), due.getSimpleName());
-        Check.letter("why() behind " + what, world.why(team), letter);
-        // Behind this why() tells the same of both teams, if nothing else differs.
-        world.isAdmitted(team);
-        like.isAdmitted(team);
-        leavesAlike(what, world, like);
+        for (int other = 0; other < Check.teamsOf(like); other++) {
+            Check.letter(what + " leaves why() of " + other, world.why(other), other == team ? letter
+                : like.why(other));
+        }
+        leavesNothing(what, maker, call);
+    }
+
+    private static void leavesNothing(String what, Maker maker, Call call) {
+        sameAnswers(what + " leaves", Probe.allOf(behind(maker, call)), Probe.allOf(behind(maker, x -> null)));
+        sameAnswers(what + " leaves legs", Probe.legsOf(behind(maker, call)), Probe.legsOf(behind(maker, x -> null)));
+    }
+
+    /** A world behind the call; why() of all its teams tells of their plans, whatever it told before. */
+    private static Gangline behind(Maker maker, Call call) {
+        Gangline world = maker.make();
+        thrownBy(world, call);
+        for (int team = 0; team < Check.teamsOf(world); team++) {
+            world.isAdmitted(team);
+        }
+        return world;
     }
 
     /** Only the first answer that differs is told. */
-    private static void leavesAlike(String what, Gangline world, Gangline like) {
-        String[] got = Probe.allOf(world).split(" ");
-        String[] due = Probe.allOf(like).split(" ");
+    private static void sameAnswers(String what, String got, String due) {
+        String[] ours = got.split(" ");
+        String[] theirs = due.split(" ");
         int place = 0;
-        while (place < got.length - 1 && place < due.length - 1 && got[place].equals(due[place])) {
+        while (place < ours.length - 1 && place < theirs.length - 1 && ours[place].equals(theirs[place])) {
             place++;
         }
-        Check.text(what + " leaves, at the answer " + place, got[place], due[place]);
+        Check.text(what + ", answer " + place, ours[place], theirs[place]);
     }
 
     /** Refused with IllegalArgumentException for each number that is just beside the range, or far from it. */

@@ -25,6 +25,7 @@ public final class PlanBoundsTest {
         bestPlanForAsManyLegsAsAreLeft();
         bestPlanCampsNothingThreeOrSixHours();
         bestPlanFeedsOneKiloIfItCan();
+        bestPlanOfThoseWhoMustStop();
         bestPlanTakesTheFirstOfEqualOnes();
         whyAtFirstAndWhenDone();
         whyOfNumbersOutOfRange();
@@ -312,6 +313,15 @@ public final class PlanBoundsTest {
         bar("food of 0 already, fed first", '-', PlanBoundsTest::withoutFood, "f1");
         bar("food of 0 already, fed first", '-', PlanBoundsTest::withoutFood, "f1 r");
         bar("food of 0 already, fed too late", 's', PlanBoundsTest::withoutFood, "c1 f1");
+        Bounds.Maker single = () -> {
+            Gangline world = withoutFood();
+            for (int dog = 1; dog < 5; dog++) {
+                world.drop(0, dog);
+            }
+            return world;
+        };
+        bar("food of 0 of a single dog", 's', single, "b0");
+        bar("food of 0 of a single dog, fed", '-', single, "f1");
         bar("feet of 15", '-', () -> sore(62), "r");
         bar("feet of 14", 's', () -> sore(67), "r");
         bar("feet of 14, camping then", 's', () -> sore(67), "r c1");
@@ -378,9 +388,9 @@ public final class PlanBoundsTest {
         one.begin(0, 200);
         planned(one, "r d1").follow(0);
         Check.same("1 kilo", one.teamOf(0, 'k'), 201);
-        Gangline shod = planned(trip(0, 5, 5, 5), "b1 r b0 r");
+        Gangline shod = planned(trip(0, 5, 5, 5, 5), "b1 r r b0 r");
         shod.follow(0);
-        Check.same("boots for one leg", shod.teamOf(0, 'o'), 5);
+        Check.same("boots for two legs", shod.teamOf(0, 'o'), 4);
     }
 
     /** "Returns the minutes": none is taken from the minute at which the team is. */
@@ -505,6 +515,32 @@ public final class PlanBoundsTest {
         return world;
     }
 
+    /** "first nothing, or 3 or 6 hours of camping, then feeding": a dog that must stop can be mended ahead of the leg. */
+    private static void bestPlanOfThoseWhoMustStop() {
+        Gangline fed = withoutFood();
+        Check.same("food of 0: feeding first", fed.bestPlan(0, 1), 2);
+        fed.follow(0);
+        Check.same("1 kilo for each", fed.teamOf(0, 'k'), 100);
+        Bounds.refused("water of 0, no kilos", Bounds.NONE, () -> thirsty(0), x -> x.bestPlan(0, 1));
+        Check.same("water of 0, with kilos", thirsty(30).bestPlan(0, 1), 2);
+        Gangline rested = sore(67);
+        rested.run(0);
+        Check.same("feet of 14", rested.dogOf(0, 'f'), 14);
+        Check.same("camping first", rested.bestPlan(0, 1), 2);
+        rested.follow(0);
+        Check.same("feet then", rested.dogOf(0, 'f'), 20);
+    }
+
+    /** Water of 0 at checkpoint 2 of 3. */
+    private static Gangline thirsty(int kilos) {
+        Gangline world = trip(kilos, 120, 80, 5);
+        world.run(0);
+        world.run(0);
+        Check.same("water", world.dogOf(0, 'w'), 0);
+        Check.letter("it lives", world.stateOf(0), 'r');
+        return world;
+    }
+
     /** "of several the first one, by the first leg first, less camping ahead of more". */
     private static void bestPlanTakesTheFirstOfEqualOnes() {
         // A storm closes the second leg in the hours 0 to 6: 6 hours ahead of either leg come equally early.
@@ -563,6 +599,8 @@ public final class PlanBoundsTest {
         Gangline world = Check.begun(3, 3);
         world.dog(2, 5, 5);
         Bounds.thrownBy(world, x -> x.restLong(0));
+        Check.same("a best plan is made", world.bestPlan(0, 2) > 0 ? 1 : 0, 1);
+        Check.letter("why() behind it", world.why(0), 'l');
         Bounds.Call[] others = {x -> x.give(0, 1, 1), x -> x.give(0, 0, 1), x -> x.help(0), x -> x.drop(0, 0),
             x -> x.drop(0, 9), x -> x.order(0, 'w', 0), x -> x.clear(0), x -> x.bestPlan(1, 1), x -> x.bestPlan(0, 1),
             x -> x.why(0), x -> x.dogOf(0, 'f'), x -> x.teamOf(0, 'm'), x -> x.raceOf(0), x -> x.owed(0),

@@ -1,4 +1,4 @@
-/** A fixed series of calls that uses up what a world holds: two worlds that answer it alike were alike. */
+/** Fixed series of calls that use up what a world holds: two worlds that answer them alike were alike. */
 final class Probe {
     private final Gangline world;
     private final StringBuilder answers = new StringBuilder();
@@ -11,6 +11,7 @@ final class Probe {
         Probe probe = new Probe(world);
         probe.look();
         probe.followPlans();
+        probe.breed();
         probe.useUp();
         for (int round = 0; round < 11; round++) {
             probe.goOn();
@@ -20,6 +21,15 @@ final class Probe {
         probe.tellTrail();
         probe.breed();
         probe.raceAgain();
+        return probe.answers.toString();
+    }
+
+    /** The legs alone, with what the teams have on and behind them as they are. */
+    static String legsOf(Gangline world) {
+        Probe probe = new Probe(world);
+        for (int leg = 0; leg < 10; leg++) {
+            probe.runAll();
+        }
         return probe.answers.toString();
     }
 
@@ -61,11 +71,14 @@ final class Probe {
         look();
     }
 
-    /** What was sent, in the checkpoint where a team is; parts, exchanges, rests, dogs that can be given back. */
+    /** Parts, exchanges and rests; all teams begin first, for none can behind a long rest. */
     private void useUp() {
         for (int i = 0; i < Check.teamsOf(world); i++) {
             int team = i;
             ask("begin", () -> world.begin(team, 10));
+        }
+        for (int i = 0; i < Check.teamsOf(world); i++) {
+            int team = i;
             ask("restMust", () -> world.restMust(team));
             ask("exchange", () -> world.exchange(team));
             ask("exchange", () -> world.exchange(team));
@@ -74,6 +87,16 @@ final class Probe {
             ask("mend", () -> world.mend(team));
             ask("restLong", () -> world.restLong(team));
         }
+    }
+
+    private void runAll() {
+        for (int i = 0; i < Check.teamsOf(world); i++) {
+            int team = i;
+            ask("run", () -> world.run(team));
+            ask("why", () -> world.why(team));
+            ask("boots", () -> world.teamOf(team, 'o'));
+        }
+        look();
     }
 
     private void goOn() {

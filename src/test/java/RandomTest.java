@@ -261,9 +261,30 @@ public final class RandomTest {
             String name = e.getClass().getSimpleName();
             Check.is(name + " is named by the promise", () -> mayThrow.contains(name));
             Check.text("a call that throws leaves", Check.stateOf(world, false), before);
+            leavesNothing();
         }
         Check.is("isTrue", () -> world.isTrue());
         return !threw;
+    }
+
+    /** Now and then: a twin without the last call, which threw, answers all later ones as one with it. */
+    private void leavesNothing() {
+        if (random.nextInt(40) > 0) {
+            return;
+        }
+        Gangline with = new Gangline();
+        Gangline without = new Gangline();
+        for (int i = 0; i < done.size(); i++) {
+            quietly(with, done.get(i));
+            if (i + 1 < done.size()) {
+                quietly(without, done.get(i));
+            }
+        }
+        for (int team = 0; team < Check.teamsOf(world); team++) {
+            with.isAdmitted(team);
+            without.isAdmitted(team);
+        }
+        Check.text("what a call that throws leaves", Probe.allOf(with), Probe.allOf(without));
     }
 
     /** Makes a plan of a team and, if it is admitted, follows it here and does its orders one by one on a twin. */

@@ -473,6 +473,8 @@ public final class WayBoundsTest {
         dogHas("5 * 60 / 200", behind(5, 0, -10, 0, false), 100 - 1 - 1, 'e');
         dogHas("5 * 79 / 200", behind(5, 0, -10, 19, false), 100 - 1 - 1, 'e');
         dogHas("5 * 80 / 200", behind(5, 0, -10, 20, false), 100 - 2 - 1, 'e');
+        dogHas("6 * 133 / 200", behind(6, 0, -10, 73, false), 100 - 3 - 1, 'e');
+        dogHas("8 * 100 / 200", behind(8, 0, -10, 40, false), 100 - 4 - 1, 'e');
         dogHas("120 * 260 / 200", behind(120, 0, -10, 200, false), 0, 'e');
     }
 
@@ -559,6 +561,11 @@ public final class WayBoundsTest {
         Check.text("food of 20", state(behind(120, 0, -10, 72, false)), "100 20 40 5");
         Check.text("food of 19", state(behind(120, 0, -10, 74, false)), "100 19 40 4");
         Check.text("water of 20", state(behind(107, 0, 0, 0, false)), "100 67 21 5");
+        Gangline thirsty = trip(8, 3, flat(80), flat(80), flat(5));
+        thirsty.begin(0, 0);
+        thirsty.run(0);
+        thirsty.run(0);
+        Check.text("water of 20", state(thirsty), "100 50 20 5");
         Check.text("water of 19", state(behind(108, 0, 0, 0, false)), "100 67 19 4");
         Check.text("food and water below 20", state(behind(120, 0, 0, 74, false)), "100 19 10 4");
         Gangline hungry = trip(8, 0, flat(120), flat(5), flat(5), flat(5), flat(5), flat(5), flat(5), flat(5));
