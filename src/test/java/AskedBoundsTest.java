@@ -59,9 +59,11 @@ public final class AskedBoundsTest {
 
     /** "'f' its feet, 'e' its food, ... 'p' its pull": "if there is no such thing", of all letters that there are. */
     private static void lettersOfDogs() {
-        Gangline world = Bounds.rich();
         for (int letter = 0; letter <= 65535; letter++) {
             char what = (char) letter;
+            Gangline world = new Gangline();
+            world.team();
+            world.dog(0, 5, 5);
             Check.text("dogOf " + letter + " throws", Bounds.thrownBy(world, x -> x.dogOf(0, what)),
                 "fewtslakp".indexOf(what) >= 0 ? "nothing" : "IllegalArgumentException");
         }
@@ -71,9 +73,11 @@ public final class AskedBoundsTest {
 
     /** "'m' its minute, 'c' its checkpoint, ... 'f' how many races it finished": of all letters that there are. */
     private static void lettersOfTeams() {
-        Gangline world = Bounds.rich();
         for (int letter = 0; letter <= 65535; letter++) {
             char what = (char) letter;
+            Gangline world = new Gangline();
+            world.team();
+            world.dog(0, 5, 5);
             Check.text("teamOf " + letter + " throws", Bounds.thrownBy(world, x -> x.teamOf(0, what)),
                 "mcksbpodef".indexOf(what) >= 0 ? "nothing" : "IllegalArgumentException");
         }

@@ -523,6 +523,11 @@ public final class PlanBoundsTest {
         Check.same("1 kilo for each", fed.teamOf(0, 'k'), 100);
         Bounds.refused("water of 0, no kilos", Bounds.NONE, () -> thirsty(0), x -> x.bestPlan(0, 1));
         Check.same("water of 0, with kilos", thirsty(30).bestPlan(0, 1), 2);
+        Bounds.refused("food of 0, and a storm that asks for camping first", Bounds.NONE, () -> {
+            Gangline world = withoutFood();
+            world.storm(1, 0, 9, 9);
+            return world;
+        }, x -> x.bestPlan(0, 1));
         Gangline rested = sore(67);
         rested.run(0);
         Check.same("feet of 14", rested.dogOf(0, 'f'), 14);

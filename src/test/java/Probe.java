@@ -1,4 +1,7 @@
-/** Fixed series of calls that use up what a world holds: two worlds that answer them alike were alike. */
+/**
+ * Fixed series of calls that use up what a world holds: two worlds that answer them alike were alike. They go on beyond
+ * the 512 calls for which the document promises anything; Gangline does not count its calls.
+ */
 final class Probe {
     private final Gangline world;
     private final StringBuilder answers = new StringBuilder();

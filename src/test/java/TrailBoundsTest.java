@@ -503,6 +503,15 @@ public final class TrailBoundsTest {
         Check.same("a single one", bestLead(world), 3);
         world.drop(0, 0);
         Check.same("none", bestLead(world), 0);
+        Gangline rising = withLeads(new int[] {1, 2, 3, 4, 5, 9});
+        for (int dog = 5; dog >= 2; dog--) {
+            Check.same("the second one of those left", bestLead(rising), 7 - dog);
+            rising.drop(0, dog);
+        }
+        Check.same("the last two", bestLead(rising), 9);
+        Gangline inside = withLeads(new int[] {1, 2, 3, 4, 5, 9});
+        inside.drop(0, 4);
+        Check.same("the third one is the second then", bestLead(inside), 3);
     }
 
     /** Dogs of these leads, the last dog hitched first. */

@@ -825,14 +825,17 @@ public final class WayBoundsTest {
         Check.same("trust ahead of the rest", tired.dogOf(0, 't'), 0);
         tired.restMust(0);
         dogHas("trust behind 8 hours", tired, 2, 't');
+        dogHas("feet behind 8 hours", tired, 50 + 16, 'f');
         Gangline longer = hungryTeam();
         Check.same("1450 minutes", longer.restLong(0), 1450);
         dogHas("trust behind 24 hours", longer, 6, 't');
+        dogHas("feet behind 24 hours", longer, 50 + 48, 'f');
     }
 
-    /** Team 0, of 6, at a checkpoint with a rest; its trust is 0. */
+    /** Team 0, of 6, at a checkpoint with a rest; feet of 50 and a trust of 0. */
     private static Gangline hungryTeam() {
-        Gangline world = trip(8, 0, flat(120), flat(5), flat(5), flat(5), flat(5), flat(5), flat(5));
+        int[] rough = {6, 9, 0};
+        Gangline world = trip(8, 0, new int[] {120, 9, 0}, rough, rough, rough, rough, flat(5));
         for (int team = 1; team < 6; team++) {
             Check.addTeam(world, 5, 8, 0);
         }
@@ -841,8 +844,10 @@ public final class WayBoundsTest {
             world.begin(team, 74);
         }
         for (int leg = 0; leg < 5; leg++) {
+            world.cold(leg, -31);
             world.run(0);
         }
+        Check.text("feet, food, water and trust", state(world), "50 0 28 0");
         return world;
     }
 
